@@ -151,6 +151,9 @@ public final class BillTest {
         CHECKS.equal("bill", 1500, net.bill());
         CHECKS.equal("owner 0 has got", 1000, net.share(0, false));
         CHECKS.equal("owner 1 has got", 500, net.share(1, false));
+        for (int plate = 0; plate < 10; plate++) {
+            CHECKS.equal("each plate is without a holder at first", -150, net.own(plate));
+        }
         net.most(74);
         // 100 * 74 / 150 = 49, 50 * 74 / 150 = 24: 50 and 24.
         CHECKS.equal("cut due to owner 0 with what is left", 1000, net.share(0, true));
