@@ -37,6 +37,11 @@ public final class FaceTest {
             "long own(int)" + INDEX,
             "long share(int, boolean)" + INDEX);
 
+    /** The calls of the document, each with what it returns, takes and throws. */
+    static List<String> face() {
+        return FACE;
+    }
+
     public static void main(String[] args) {
         Class<?> net = Tollweave.class;
         int modifiers = net.getModifiers();
